@@ -483,8 +483,8 @@ public final class FilledRoll {
             h = 31 * h + formIs(form, 10);
         }
         for (int clerk = 0; clerk < CLERKS; clerk++) {
-            h = 31 * h + rules(clerk);
-            h = 31 * h + unlike(clerk);
+            h = 31 * h + files.fittingRules(clerk);
+            h = 31 * h + files.unlikePairs(clerk);
         }
         h = 31 * h + fault();
         h = 31 * h + ready(NONE);
@@ -1458,13 +1458,15 @@ public final class FilledRoll {
             if (what == 2) {
                 return priceOf(bits);
             }
-            lookAhead();
+            lessons.foresee();
+            rightAnswers = law.rightAnswers(days.today);
             goThrough(bits);
             return what == 0 ? came : readyThen;
         }
 
         int bestWithin(int price) {
-            lookAhead();
+            lessons.foresee();
+            rightAnswers = law.rightAnswers(days.today);
             goThrough(0);
             int best = 0;
             int bestCame = came;
@@ -1497,11 +1499,6 @@ public final class FilledRoll {
                 }
             }
             return price;
-        }
-
-        private void lookAhead() {
-            lessons.foresee();
-            rightAnswers = law.rightAnswers(days.today);
         }
 
         /** Takes choices in order without changing the county; came and readyThen tell what was. */

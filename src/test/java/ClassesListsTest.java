@@ -15,12 +15,18 @@ final class ClassesListsTest {
         list();
         struck();
         allAtOnce();
+        eachByItself();
         fullOfLists();
         CHECK.end();
     }
 
     private static void teach() {
         FilledRoll x = new FilledRoll();
+        for (int beat = 0; beat < 6; beat++) {
+            CHECK.due("nobody in " + beat, 0, x.teach(beat));
+            CHECK.due("nobody is ready", 0, x.ready(beat));
+        }
+        CHECK.due("nobody anywhere", 0, x.ready(NONE));
         int[] schooling = {0, 18, 19, 20, 5, 5, 5, 5};
         for (int i = 0; i < 8; i++) {
             x.person(2, i == 4 ? 1 : 0, schooling[i], 0, NONE);
@@ -211,6 +217,20 @@ final class ClassesListsTest {
         CHECK.due("second", 3, x.about(2, 5));
         CHECK.due("fear 9 is not less than 9; 9 and 1", 2, x.about(3, 5));
         CHECK.due("beat 0: 9 and 1", 2, x.about(0, 5));
+    }
+
+    private static void eachByItself() {
+        FilledRoll x = new FilledRoll();
+        for (int beat = 0; beat < 6; beat++) {
+            int owner = x.person(beat, 1, 0, 5, NONE);
+            on(x, beat, 0, owner);
+            x.harsh(owner, 1);
+        }
+        CHECK.due("one in each", 6, x.list());
+        CHECK.due("none any more", 0, x.list());
+        for (int owner = 0; owner < 12; owner += 2) {
+            CHECK.due("fear by the first alone", 6, x.about(owner, 3));
+        }
     }
 
     private static void fullOfLists() {

@@ -22,7 +22,7 @@ final class CountDigestTest {
         for (int i = 0; i < 4; i++) {
             x.form(i, 0);
         }
-        x.read(0, 1, false, 2);
+        x.read(1, 1, false, 2);
         x.read(2, 1, true, 0);
         x.read(3, 2, true, 0);
         x.pass(9);
@@ -84,6 +84,7 @@ final class CountDigestTest {
         x = busy();
         long busy = x.digest();
         CHECK.due("busy", sum(x, 5), busy);
+        CHECK.due("with an unlike pair", 1, x.unlike(1));
         CHECK.due("the same again", busy, x.digest());
         x.lose(3);
         CHECK.due("findings do not count", busy, x.digest());

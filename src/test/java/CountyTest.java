@@ -161,6 +161,8 @@ final class CountyTest {
         CHECK.due("person 1", BAD, x.harsh(1, 1));
         CHECK.due("person -1", BAD, x.harsh(-1, 1));
         CHECK.due("about", 3, x.about(0, 6));
+        CHECK.due("to 0", 3, x.harsh(0, 0));
+        CHECK.due("was 0", 0, x.harsh(0, 1));
     }
 
     private static void roll() {

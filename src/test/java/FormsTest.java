@@ -123,6 +123,7 @@ final class FormsTest {
         Check.laws(x, "n=0;s=8");
         CHECK.due("at least s", 1, x.formIs(0, 5));
         CHECK.due("below s", 0, x.formIs(1, 5));
+        CHECK.due("true: schooling", 2, x.formIs(1, 10));
         Check.laws(x, "n=4;k=1;s=5");
         CHECK.due("true: all three", 7, x.formIs(1, 10));
         Check.laws(x, "n=0;s=9@1");

@@ -96,7 +96,7 @@ final class HabitsLinesTest {
         form(y, 1, 3, 0, false);
         form(y, 1, 2, 0, true);
         CHECK.due("none fits sort 1", 0, y.rules(0));
-        CHECK.due("no first", NONE, y.rule(0, 0));
+        CHECK.due("no first of it", NONE, y.rule(0, 0));
         Check.laws(y, "q0=1;q1=2;q2=1;q3=1");
         CHECK.due("right ones by the laws now: 2 refused, 1 passed", 0, y.rules(0));
         Check.laws(y, "n=1");
@@ -130,6 +130,12 @@ final class HabitsLinesTest {
         Check.laws(x, "q3=1");
         CHECK.due("right ones by the laws now", 5, x.unlike(2));
         CHECK.due("the first is the same", 100, x.proves(2));
+        FilledRoll y = four();
+        form(y, 0, 2, 0, true);
+        form(y, 2, 1, 0, true);
+        form(y, 1, 0, 0, false);
+        form(y, 1, 1, 0, false);
+        CHECK.due("1, then 3", 103, y.proves(0));
     }
 
     private static void minutes() {
@@ -161,6 +167,7 @@ final class HabitsLinesTest {
         CHECK.due("like", BAD, x.office(1, 7, 7));
         CHECK.due("behind", BAD, x.office(1, 8, 7));
         CHECK.due("next", 1, x.office(1, 7, 8));
+        CHECK.due("on no day", 1, x.office(0, 0, 1));
         x.person(0, 0, 0, 0, NONE);
         x.stand(0, 0);
         x.office(1 << 3, 100, 200);
@@ -190,6 +197,7 @@ final class HabitsLinesTest {
         CHECK.due("leave", 0, x.leave());
         CHECK.due("anew", 1, x.stand(24, 0));
         CHECK.due("not from before", BAD, x.begun(0, 0, 23));
+        CHECK.due("none from before is seen", 1, x.sees(0, 0));
     }
 
     private static void line() {
@@ -217,6 +225,9 @@ final class HabitsLinesTest {
         CHECK.due("clerk -1", BAD, x.begun(-1, 0, 4));
         CHECK.due("day 400", BAD, x.begun(0, 400, 4));
         CHECK.due("day -1", BAD, x.begun(0, -1, 4));
+        x.stand(2, 610);
+        CHECK.due("between them", 640, x.begun(0, 0, 2));
+        CHECK.due("behind it", 700, x.begun(0, 0, 1));
         CHECK.due("sees: clerk 4", BAD, x.sees(4, 0));
         CHECK.due("sees: clerk -1", BAD, x.sees(-1, 0));
         CHECK.due("sees: day 400", BAD, x.sees(0, 400));
@@ -232,6 +243,19 @@ final class HabitsLinesTest {
         x.stand(1, 0);
         x.stand(2, 0);
         x.minutes(0, 1, 100);
+        x.minutes(1, 0, 120);
+        x.minutes(1, 1, 120);
+        x.minutes(2, 0, 119);
+        CHECK.due("540 to 1020 at first", 3, x.sees(1, 0));
+        x.stand(x.person(0, 0, 0, 0, NONE), 902);
+        CHECK.due("902 and 119 are not by 1020", 3, x.sees(2, 0));
+        x.leave();
+        x.stand(3, 901);
+        CHECK.due("901 and 119 are", 1, x.sees(2, 0));
+        x.leave();
+        for (int i = 0; i < 3; i++) {
+            x.stand(i, 0);
+        }
         x.office(1, 0, 140);
         CHECK.due("done by closing", 3, x.sees(0, 0));
         x.office(1, 0, 139);

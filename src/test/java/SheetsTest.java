@@ -36,10 +36,12 @@ final class SheetsTest {
         CHECK.due("0", 0, x.sheet(0, 0, 0));
         CHECK.due("40", 40, x.sheet(1, 2, 40));
         x.lay(1, 2, 39, 7);
+        x.lay(1, 2, 0, 8);
         CHECK.due("refused: as it was", SIZE, x.sheet(1, 0, -5));
         CHECK.due("as it was", 7, x.get(1, 2, 39));
         CHECK.due("a new row", 40, x.sheet(1, 2, 40));
         CHECK.due("of 0s", 0, x.get(1, 2, 39));
+        CHECK.due("of 0s, the first", 0, x.get(1, 2, 0));
         CHECK.due("of another type", 3, x.sheet(1, 1, 3));
         CHECK.due("no fourth item", INDEX, x.lay(1, 1, 3, 1));
     }

@@ -63,6 +63,13 @@ final class SuitsVotesTest {
 
     private static void ripeRefused() {
         FilledRoll x = new FilledRoll();
+        x.person(0, 1, 5, 0, NONE);
+        x.sheet(0, 0, 0);
+        Check.laws(x, "n=0");
+        x.form(0, 0);
+        x.read(0, 0, false, 0);
+        CHECK.due("on day 0", 0, x.ripe(1, 0, 0));
+        CHECK.due("asked again", NONE, x.ripe(2, 0, 0));
         CHECK.due("30", NONE, x.ripe(30, 0, 399));
         CHECK.due("31", BAD, x.ripe(31, 0, 399));
         CHECK.due("0", BAD, x.ripe(0, 0, 399));
@@ -112,6 +119,8 @@ final class SuitsVotesTest {
         CHECK.due("fewer than are ON", 0, x.number(100, 3, 2, 5));
         CHECK.due("most", 2, x.number(100, 1000, 100, 5));
         CHECK.due("least", 1, x.number(1, 450, 100, 5));
+        CHECK.due("5 in 501", 2, x.number(1, 501, 0, 5));
+        CHECK.due("5 in 500", 0, x.number(1, 500, 0, 5));
         x.put(0, 2);
         CHECK.due("4 of 10", 2, x.number(50, 10, 1, 5));
     }
@@ -126,6 +135,7 @@ final class SuitsVotesTest {
         CHECK.due("error 101", BAD, x.number(50, 1000, 101, 0));
         CHECK.due("error 10 of 10", BAD, x.number(50, 10, 10, 0));
         CHECK.due("error 9 of 10", 0, x.number(50, 10, 9, 0));
+        CHECK.due("census 1", 0, x.number(50, 1, 0, 0));
         CHECK.due("day 400", BAD, x.number(50, 10, 0, 400));
         CHECK.due("day -1", BAD, x.number(50, 10, 0, -1));
     }
@@ -168,6 +178,17 @@ final class SuitsVotesTest {
         x.put(1, 2);
         CHECK.due("1 and 1", NONE, x.chosen(0));
         CHECK.due("1, a STRUCK or an OFF one", 1, x.changed(0));
+        FilledRoll y = new FilledRoll();
+        beat(y, 3, 1, 4, 0, 0);
+        y.put(1, 2);
+        y.put(2, 2);
+        CHECK.due("by one", 1, y.chosen(3));
+        y.put(3, 2);
+        CHECK.due("like", NONE, y.chosen(3));
+        CHECK.due("a STRUCK one", 1, y.changed(3));
+        y.put(4, 2);
+        CHECK.due("by one of 0", 0, y.chosen(3));
+        CHECK.due("two STRUCK ones", 2, y.changed(3));
         CHECK.due("chosen: 6", BAD, x.chosen(6));
         CHECK.due("chosen: NONE", BAD, x.chosen(NONE));
         CHECK.due("changed: 6", BAD, x.changed(6));
@@ -188,6 +209,11 @@ final class SuitsVotesTest {
         for (int w = 0; w <= 6; w++) {
             CHECK.due("wins " + w, want[w], x.wins(w));
         }
+        FilledRoll y = new FilledRoll();
+        beat(y, 2, 1, 0, 0, 2);
+        beat(y, 1, 2, 0, 0, 4);
+        CHECK.due("the cheapest costs, too", 2, y.wins(1));
+        CHECK.due("both", 5, y.wins(2));
         CHECK.due("7", BAD, x.wins(7));
         CHECK.due("-1", BAD, x.wins(-1));
     }

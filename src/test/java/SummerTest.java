@@ -64,13 +64,17 @@ final class SummerTest {
         CHECK.due("all: on", 2, x.judge(63, 0));
         CHECK.due("all: ready", 1, x.judge(63, 1));
         CHECK.due("all: price", 63, x.judge(63, 2));
+        x.choice(true, 2, 0);
+        x.choice(true, 2, 0);
+        CHECK.due("another one, once", 1, x.judge(64 + 128, 0));
+        CHECK.due("and it is not ready", 0, x.judge(64 + 128, 1));
         CHECK.due("later ride", 1, x.judge(1 + 2 + 32, 0));
         CHECK.due("price", 35, x.judge(35, 2));
         CHECK.due("nothing changes", 6, x.about(0, 2));
         CHECK.due("nobody is ON", 0, x.count(2));
         CHECK.due("no form", 0, x.count(3));
         CHECK.due("bits -1", BAD, x.judge(-1, 0));
-        CHECK.due("bits 64", BAD, x.judge(64, 0));
+        CHECK.due("bits 256", BAD, x.judge(256, 0));
         CHECK.due("what 3", BAD, x.judge(0, 3));
         CHECK.due("what -1", BAD, x.judge(0, -1));
     }
@@ -82,6 +86,10 @@ final class SummerTest {
         CHECK.due("none is right, n is 1", 0, x.judge(1, 0));
         Check.laws(x, "q3=7");
         CHECK.due("all right answers: 1", 1, x.judge(1, 0));
+        Check.laws(x, "q0=7");
+        CHECK.due("of the first", 1, x.judge(1, 0));
+        Check.laws(x, "q19=7");
+        CHECK.due("of the last", 1, x.judge(1, 0));
         Check.laws(x, "q3=7;q4=7;n=3");
         CHECK.due("2 of 3", 0, x.judge(1, 0));
         Check.laws(x, "q3=7;q4=7;q5=1@1;n=3");
@@ -162,5 +170,29 @@ final class SummerTest {
         x.choice(false, 1, 0);
         x.choice(false, 1, 0);
         CHECK.due("the fewest", 3, x.best(0));
+        x.drop();
+        x.choice(false, 1, 1);
+        x.choice(false, 1, 1);
+        x.choice(true, 1, 1);
+        x.choice(true, 0, 5);
+        CHECK.due("a ride, and the most ready", 7, x.best(5));
+        x.drop();
+        x.choice(true, 0, 2);
+        x.choice(false, 0, 1);
+        x.choice(true, 0, 1);
+        CHECK.due("cheaper by one", 4, x.best(5));
+        FilledRoll y = new FilledRoll();
+        y.person(0, 0, 6, 0, NONE);
+        y.person(1, 0, 8, 0, NONE);
+        Check.laws(y, "s=10");
+        y.choice(false, 0, 1);
+        y.choice(false, 0, 1);
+        y.choice(false, 1, 2);
+        CHECK.due("one for the price of two", 4, y.best(3));
+        y.drop();
+        y.choice(false, 0, 1);
+        y.choice(false, 0, 1);
+        y.choice(false, 1, 4);
+        CHECK.due("two for less", 3, y.best(5));
     }
 }
