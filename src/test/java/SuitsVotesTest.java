@@ -70,6 +70,16 @@ final class SuitsVotesTest {
         x.read(0, 0, false, 0);
         CHECK.due("on day 0", 0, x.ripe(1, 0, 0));
         CHECK.due("asked again", NONE, x.ripe(2, 0, 0));
+        for (int i = 0; i < 3; i++) {
+            x.pass(100);
+        }
+        x.pass(99);
+        x.form(0, 0);
+        x.read(1, 0, false, 0);
+        CHECK.due("on the last day", 399, x.ripe(1, 399, 399));
+        CHECK.due("by the last day", 399, x.ripe(2, 0, 399));
+        Check.laws(x, "n=1");
+        CHECK.due("none of the last day any more", NONE, x.ripe(1, 399, 399));
         CHECK.due("30", NONE, x.ripe(30, 0, 399));
         CHECK.due("31", BAD, x.ripe(31, 0, 399));
         CHECK.due("0", BAD, x.ripe(0, 0, 399));
