@@ -105,13 +105,13 @@ final class LawTest {
         }
         CHECK.due("50 parts and a ; behind", 200, x.fault());
         CHECK.due("all is as without", 1, x.law(0, 0));
-        x.wipe();
+        x = new FilledRoll();
         for (int i = 0; i < 49; i++) {
             Check.say(x, "n=2;");
         }
         Check.say(x, "n=3@");
         CHECK.due("200 bytes, open", 200, x.fault());
-        x.wipe();
+        x = new FilledRoll();
         for (int i = 0; i < 49; i++) {
             Check.say(x, "n=2;");
         }

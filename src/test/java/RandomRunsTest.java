@@ -67,8 +67,12 @@ final class RandomRunsTest {
             settle(beats);
         }
         speak(from(0, 8));
-        while (calls < CALLS) {
+        // One act is five calls at most.
+        while (calls + 5 <= CALLS) {
             act();
+        }
+        while (calls < CALLS) {
+            same("digest", y.digest(), x.digest());
         }
     }
 
@@ -98,7 +102,7 @@ final class RandomRunsTest {
                     : (char) random.nextInt(256);
             text.setCharAt(place, sign);
         }
-        for (int i = 0; i < text.length() && calls < CALLS; i++) {
+        for (int i = 0; i < text.length() && calls + 2 <= CALLS; i++) {
             type(text.charAt(i));
         }
     }
