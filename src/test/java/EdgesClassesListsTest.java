@@ -24,6 +24,7 @@ final class EdgesClassesListsTest {
         comeTo10OrMore();
         tenAreGone();
         inSuchABeatAlone();
+        byThisListAlone();
         fearUpTo9();
         thirtyLists();
         promise31();
@@ -115,6 +116,15 @@ final class EdgesClassesListsTest {
         shares(s, 12, 2, 0, 0, 0, 0, 2, 10);
         shares(NEW, 12, 0, 0, 0, 0, 0, 0, 0);
         shares(NEW, 0, 0, 0, 0, 0, 0, 0, 0);
+        s.answers("asked before", 2, x -> {
+            x.helpers(12, NONE);
+            x.helpers(11, NONE);
+            return x.helpers(12, NONE);
+        });
+        s.answers("fewer behind more", 1, x -> {
+            x.helpers(12, NONE);
+            return x.helpers(11, NONE);
+        });
     }
 
     /** "of like ones the fewest lessons" */
@@ -250,6 +260,19 @@ final class EdgesClassesListsTest {
         again.answers("nobody is STRUCK by it: 9 and 0", 0, x -> x.listIs(1, 3));
         again.answers("fear", 9, x -> x.about(1, 3));
         again.answers("fear in another beat", 0, x -> x.about(0, 3));
+    }
+
+    /** "GONE by this LIST": what was by one before counts no more, in any BEAT. */
+    private static void byThisListAlone() {
+        Scene s = NEW.then("one GONE in each beat").laws("n=0").times(6, i -> x -> x.person(i, 0, 0, 5, NONE))
+                .times(6, i -> x -> x.person(i, 1, 0, 0, i)).times(6, i -> x -> x.harsh(i, 1))
+                .enrolls(0, 6, 7, 8, 9, 10, 11).does(x -> x.list(), x -> x.list());
+        s.answers("by the first", 6, x -> x.listIs(0, 2));
+        s.answers("by the second", 0, x -> x.listIs(1, 2));
+        for (int i = 0; i < 6; i++) {
+            int person = i;
+            s.answers("fear by the first alone", 6, x -> x.about(person, 3));
+        }
     }
 
     /** "Behind that FEAR of all that live in such a BEAT is 1 more, up to 9." */

@@ -195,7 +195,8 @@ final class EdgesCountyTest {
             TOWN.answers("the least", least[what], x -> x.about(x.person(0, 0, 0, 0, NONE), what));
             TOWN.answers("the most", most[what], x -> x.about(x.person(5, 1, 20, 9, 7), what));
         }
-        Scene full = crowd(48);
+        Scene full = TOWN.then("forty more").times(40, i -> x -> x.person(i % 6, i % 2, i % 21, i % 10, i));
+        full.answers("persons", 48, x -> x.count(1));
         full.refuses("FULL, with an owner", FULL, x -> x.person(5, 1, 20, 9, 47));
         full.refuses("BAD ahead of FULL: owner", BAD, x -> x.person(5, 1, 20, 9, 48));
         full.refuses("BAD ahead of FULL: beat", BAD, x -> x.person(6, 1, 20, 9, NONE));

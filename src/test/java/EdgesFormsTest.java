@@ -134,6 +134,12 @@ final class EdgesFormsTest {
         all.answers("by text", 1, x -> x.formIs(0, 5));
         all.answers("all but the last", 19, x -> x.formIs(1, 3));
         all.answers("not by text", 0, x -> x.formIs(1, 5));
+        Scene none = all.then("wiped").does(x -> x.wipe());
+        none.answers("none is right without LAWS", 0, x -> x.formIs(0, 3));
+        none.answers("nor by text", 0, x -> x.formIs(0, 5));
+        Scene other = none.then("other laws").types("q19=1");
+        other.answers("one by the text of now", 1, x -> x.formIs(1, 3));
+        other.answers("by text", 1, x -> x.formIs(1, 5));
     }
 
     /** "it is to be passed, if the PERSON's SORT may be on the roll" */
@@ -221,9 +227,9 @@ final class EdgesFormsTest {
         }
     }
 
-    /** A form handed in on day 0 and read so many days later, under a law of w. */
+    /** A form handed in on day 3 and read so many days later, under a law of w. */
     private static Scene read(int w, int days) {
-        Scene s = TWO.then("w=" + w + ", read on day " + days).laws("n=0;w=" + w).does(x -> x.form(0, 0));
+        Scene s = TWO.then("w=" + w + ", read behind " + days).laws("n=0;w=" + w).does(x -> x.pass(3), x -> x.form(0, 0));
         if (days > 0) {
             s.does(x -> x.pass(days));
         }
@@ -247,7 +253,7 @@ final class EdgesFormsTest {
     /** "or that is not READ more than w DAYS (by LAW on that DAY) after, AS OF a DAY" */
     private static void lateWhenNotRead() {
         for (int w : new int[] {0, 1, 5, 99}) {
-            Scene in = TWO.then("w=" + w).laws("n=0;w=" + w).does(x -> x.form(0, 0));
+            Scene in = TWO.then("w=" + w).laws("n=0;w=" + w).does(x -> x.pass(3), x -> x.form(0, 0));
             if (w > 0) {
                 in.does(x -> x.pass(w));
             }
@@ -255,8 +261,8 @@ final class EdgesFormsTest {
             Scene late = in.then("a day more").does(x -> x.pass(1));
             late.answers("late", 1, x -> x.formIs(0, 11));
             late.answers("true reasons", 8, x -> x.formIs(0, 10));
-            late.then("as of a day before").does(x -> x.asOf(w)).answers("not late", 0, x -> x.formIs(0, 11));
-            Scene read = late.then("read today").does(x -> x.read(0, 0, false, 3), x -> x.asOf(w));
+            late.then("as of a day before").does(x -> x.asOf(3 + w)).answers("not late", 0, x -> x.formIs(0, 11));
+            Scene read = late.then("read today").does(x -> x.read(0, 0, false, 3), x -> x.asOf(3 + w));
             read.answers("not read as of a day before, not late", 0, x -> x.formIs(0, 11));
         }
     }
@@ -381,6 +387,9 @@ final class EdgesFormsTest {
         TOWN.finds("NULL ahead of NOT: DEAD", NULL, 1, x -> x.form(7, 3));
         Scene full = TWO.then("60 forms, one ON").times(60, i -> x -> x.form(0, 0)).does(x -> x.read(0, 0, true, 0));
         full.refuses("FULL", FULL, x -> x.form(1, 0));
+        Scene town = TOWN.then("60 forms").times(54, i -> x -> x.form(i % 3, i % 3));
+        town.answers("forms", 60, x -> x.count(3));
+        town.refuses("FULL", FULL, x -> x.form(0, 0));
         full.refuses("NOT ahead of FULL", NOT, x -> x.form(0, 0));
         full.finds("NULL ahead of FULL", NULL, 1, x -> x.form(1, 1));
         full.refuses("BAD ahead of FULL: person", BAD, x -> x.form(2, 0));

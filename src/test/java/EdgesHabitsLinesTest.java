@@ -234,6 +234,10 @@ final class EdgesHabitsLinesTest {
             int person = i;
             s.answers("begun " + person, begun[person], x -> x.begun(0, 0, person));
         }
+        Scene sorts = ASKED.then("the quick one comes ahead").does(x -> x.person(0, 0, 0, 0, NONE),
+                x -> x.minutes(0, 1, 45), x -> x.stand(2, 601), x -> x.stand(1, 600), x -> x.stand(0, 599));
+        sorts.answers("behind the quick one", 619, x -> x.begun(0, 0, 1));
+        sorts.answers("behind the slow one", 664, x -> x.begun(0, 0, 2));
     }
 
     /** "one is BEGUN at the greatest of its minute, opening, and when the one before was done" */
@@ -346,6 +350,10 @@ final class EdgesHabitsLinesTest {
         full.refuses("BAD ahead of FULL: person", BAD, x -> x.stand(26, 0));
         full.refuses("BAD ahead of FULL: minute", BAD, x -> x.stand(24, 1440));
         full.refuses("FULL", FULL, x -> x.stand(25, 1439));
+        Scene town = TOWN.then("22 more in line").times(18, i -> x -> x.person(0, 1, 0, 0, NONE))
+                .times(22, i -> x -> x.stand(i + 2, 541 + i));
+        town.answers("in line", 24, x -> x.count(6));
+        town.refuses("FULL", FULL, x -> x.stand(25, 560));
         NEW.refuses("nobody", BAD, x -> x.stand(0, 0));
         NEW.then("a GONE one").does(x -> x.person(0, 0, 0, 0, NONE), x -> x.put(0, 3))
                 .answers("nothing is told against it", 1, x -> x.stand(0, 0));

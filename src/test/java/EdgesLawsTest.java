@@ -61,6 +61,9 @@ final class EdgesLawsTest {
         full.refuses("one more", FULL, x -> x.type('n'));
         full.refuses("BAD ahead of FULL: above", BAD, x -> x.type(256));
         full.refuses("BAD ahead of FULL: below", BAD, x -> x.type(-1));
+        Scene town = TOWN.then("200 bytes").does(x -> x.wipe()).times(200, i -> x -> x.type("n=7;".charAt(i % 4)));
+        town.refuses("one more", FULL, x -> x.type('n'));
+        town.refuses("BAD ahead of FULL", BAD, x -> x.type(256));
         full.answers("wiped", 200, x -> x.wipe());
         full.then("wiped").does(x -> x.wipe()).answers("room again", 1, x -> x.type('n'));
     }
@@ -353,7 +356,7 @@ final class EdgesLawsTest {
 
     /** "The right answer of a QUESTION on a DAY; NONE. BAD." */
     private static void promise12() {
-        Scene s = text("q0=5;q19=6;q0=7@399");
+        Scene s = TOWN.then("other laws").laws("q0=5;q19=6;q0=7@399");
         s.range("question", 0, 5, 19, 6, n -> x -> x.right(n, 0));
         s.range("day", 0, 5, 399, 7, n -> x -> x.right(0, n));
         s.answers("none", NONE, x -> x.right(18, 399));
@@ -361,14 +364,14 @@ final class EdgesLawsTest {
 
     /** "By LAW on a DAY: 0 n, 1 k, 2 s, 3 w. BAD." */
     private static void promise13() {
-        Scene s = text("n=5;w=6;n=7@399");
+        Scene s = TOWN.then("other laws").laws("n=5;w=6;n=7@399");
         s.range("what", 0, 5, 3, 6, n -> x -> x.law(n, 0));
         s.range("day", 0, 5, 399, 7, n -> x -> x.law(0, n));
     }
 
     /** "of a QUESTION (0 to 19), or of n, k, s, w (20 to 23), on a DAY. BAD." */
     private static void promise14() {
-        Scene s = text("k=1;q0=5;w=6;q19=6;n=2;q0=1@399");
+        Scene s = TOWN.then("other laws").laws("k=1;q0=5;w=6;q19=6;n=2;q0=1@399");
         s.range("what", 0, 1, 23, 2, n -> x -> x.why(n, 0));
         s.answers("the last QUESTION", 3, x -> x.why(19, 0));
         s.answers("n", 4, x -> x.why(20, 0));

@@ -7,9 +7,9 @@ final class EdgesSheetsTest {
     private static final Scene NEW = new Scene(CHECK, "new");
     private static final Scene TOWN = Scene.town(CHECK);
     /** Sheet 0 bytes, 1 shorts, 2 ints of five items 1 to 5, 3 ints of three items 6 to 8. */
-    private static final Scene ROWS = NEW.then("rows").does(x -> x.sheet(0, 0, 5), x -> x.sheet(1, 1, 5))
+    private static final Scene ROWS = TOWN.then("rows").does(x -> x.sheet(0, 0, 5), x -> x.sheet(1, 1, 5))
             .ints(2, 1, 2, 3, 4, 5).ints(3, 6, 7, 8);
-    private static final Scene INTS = NEW.then("all ints").ints(0, 1).ints(1, 2).ints(2, 3).ints(3, 4);
+    private static final Scene INTS = TOWN.then("all ints").ints(0, 1).ints(1, 2).ints(2, 3).ints(3, 4);
 
     private EdgesSheetsTest() {
     }
@@ -306,6 +306,8 @@ final class EdgesSheetsTest {
             ROWS.finds("from " + one[0] + " to " + one[1] + ", " + one[2], INDEX, 2,
                     x -> x.copy(2, one[0], 3, one[1], one[2]));
         }
+        TOWN.finds("not so many, 3 is lost", INDEX, 2, x -> x.copy(2, 0, 2, 1, 40));
+        TOWN.answers("just so many, 3 is lost", 1, x -> x.copy(2, 0, 2, 1, 39));
         ROWS.answers("just so many", 1, x -> x.copy(2, 2, 3, 0, 3));
         ROWS.answers("just so many there", 1, x -> x.copy(2, 0, 3, 2, 1));
     }
@@ -359,12 +361,12 @@ final class EdgesSheetsTest {
     }
 
     private static void promise51ByLawAtTheDay() {
-        Scene s = ROWS.then("a law from day 1").laws("q0=4;q1=5@1").does(x -> x.write(2));
+        Scene s = ROWS.then("on day 2, a law from day 3").laws("q0=4;q1=5@3").does(x -> x.write(2));
         row(s, 2, 4, NONE, NONE, NONE, NONE);
         row(s.then("a day on").does(x -> x.pass(1), x -> x.write(2)), 2, 4, 5, NONE, NONE, NONE);
-        row(ROWS.then("no law").does(x -> x.write(3)), 3, NONE, NONE, NONE);
-        Scene form = s.then("handed in").types(";n=1").does(x -> x.person(0, 0, 0, 0, NONE), x -> x.form(0, 2));
-        form.answers("all right answers", 1, x -> x.formIs(0, 3));
-        form.answers("none is empty", 19, x -> x.formIs(0, 4));
+        row(ROWS.then("no law").does(x -> x.wipe(), x -> x.write(3)), 3, NONE, NONE, NONE);
+        Scene form = s.then("handed in").does(x -> x.form(0, 2));
+        form.answers("all right answers", 1, x -> x.formIs(6, 3));
+        form.answers("empty where none is right", 19, x -> x.formIs(6, 4));
     }
 }

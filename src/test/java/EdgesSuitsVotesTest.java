@@ -99,6 +99,7 @@ final class EdgesSuitsVotesTest {
             int needs = i + 1;
             three().answers("needs " + needs, first[i], x -> x.ripe(needs, 0, 399));
         }
+        three().then("asked before").does(x -> x.ripe(3, 0, 399)).answers("four", NONE, x -> x.ripe(4, 0, 399));
         int[] asOf = {3, 4, 5, 6, 7, 8, 9};
         int[] want = {NONE, NONE, NONE, 6, 6, 6, 6};
         for (int i = 0; i < asOf.length; i++) {
@@ -308,7 +309,7 @@ final class EdgesSuitsVotesTest {
 
     /** "by a census with an error, by LAW on a DAY: 2 SURE, 1 MAY BE, 0 neither. BAD" */
     private static void promise38() {
-        Scene s = on(5);
+        Scene s = TOWN.then("one ON");
         s.range("p", 1, 0, 100, 2, n -> x -> x.number(n, 100, 0, 0));
         s.range("census", 1, 0, 1000, 2, n -> x -> x.number(50, n, 0, 0));
         s.range("error", 0, 2, 100, 2, n -> x -> x.number(50, 1000, n, 0));

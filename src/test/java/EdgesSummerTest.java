@@ -55,6 +55,9 @@ final class EdgesSummerTest {
         full.refuses("BAD ahead of FULL: person", BAD, x -> x.choice(true, 2, 0));
         full.refuses("BAD ahead of FULL: price", BAD, x -> x.choice(false, 0, 101));
         full.refuses("beyond all bits", BAD, x -> x.judge(256, 0));
+        Scene town = TOWN.then("six more").times(6, i -> x -> x.choice(i % 2 == 0, i % 6, i));
+        town.refuses("a ninth lesson", FULL, x -> x.choice(false, 0, 0));
+        town.refuses("a ninth, a ride", FULL, x -> x.choice(true, 0, 0));
     }
 
     /** "with a price (0 to 100)" */

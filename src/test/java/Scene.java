@@ -148,7 +148,8 @@ final class Scene {
     /** All that can be asked behind the calls and one more, by as many fresh objects as it takes. */
     private long[] all(Call more) {
         long[] answers = new long[QUERIES.size()];
-        int room = CALLS - calls.size() - 1;
+        // A question is two calls at most.
+        int room = (CALLS - calls.size() - 1) / 2;
         check.holds(name + ": room for questions", room > 0);
         for (int from = 0; room > 0 && from < answers.length; from += room) {
             FilledRoll x = play();
@@ -259,26 +260,44 @@ final class Scene {
                 ask("judge " + taken + " " + what, x -> x.judge(taken, what));
             }
         }
+        // No question reads a form: an order that is taken back here is missed by none of them.
+        for (int i = 0; i < 4; i++) {
+            int clerk = i;
+            ask("order " + clerk, x -> x.order(clerk, NONE));
+        }
         ask("best 5", x -> x.best(5));
         ask("best 1000", x -> x.best(1000));
     }
 
     private static void askOfSheets() {
+        // The items that are there in the town come first: a refused get() that changed some would tell on itself.
+        int[] items = {3, 2, 40};
+        for (int i = 0; i < 3; i++) {
+            int s = i;
+            for (int k = 0; k < items[s]; k++) {
+                int item = k;
+                ask("get " + s + " " + s + " " + item, x -> x.get(s, s, item));
+            }
+        }
         for (int i = 0; i < 4 * 3 * 41; i++) {
             int s = i / 123;
             int type = i / 41 % 3;
             int item = i % 41;
-            ask("get " + s + " " + type + " " + item, x -> x.get(s, type, item));
+            ask("get " + s + " " + type + " " + item, x -> itemOrFinding(x, s, type, item));
         }
+    }
+
+    private static long itemOrFinding(FilledRoll x, int s, int type, int item) {
+        long answer = x.get(s, type, item);
+        return answer == Integer.MIN_VALUE ? answer - x.count(9) : answer;
     }
 
     /** What only a call tells that changes it; it comes last, and alike for both twins. */
     private static void askByChanging() {
         ask("asOf", x -> x.asOf(NONE));
         for (int i = 0; i < 4; i++) {
-            int n = i;
-            ask("order " + n, x -> x.order(n, NONE));
-            ask("lose " + n, x -> x.lose(n));
+            int s = i;
+            ask("lose " + s, x -> x.lose(s));
         }
         ask("leave", x -> x.leave());
         // The hours: who comes at every hour is seen from opening to closing.
